@@ -513,7 +513,7 @@ public final class LedWitness {
         }
 
         boolean isA(Kind other) {
-            return other == this || other == WITNESS || this == PARROT && other == CHILD;
+            return other == this || other == WITNESS || (this == PARROT && other == CHILD);
         }
     }
 
