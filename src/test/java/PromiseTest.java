@@ -1,42 +1,5 @@
 /** Each promise of the document by itself: ordinary inputs, the edges it names, wrong inputs. */
-public final class PromiseTest {
-    private static final int NONE = -1, UNKNOWN = -101, OUTSIDE = -102, STATE = -103, FULL = -104;
-    private static final int WITNESS = 0, CHILD = 1, OLD = 2, STUBBORN = 3, PARROT = 4;
-    private static final int NOTHING = 4;
-
-    private static int wrong = 0;
-
-    private static void due(String call, long got, long want) {
-        if (got != want) {
-            wrong++;
-            System.out.println(call + " answered " + got + ", due is " + want);
-        }
-    }
-
-    private static void type(LedWitness x, String text) {
-        for (int i = 0; i < text.length(); i++) {
-            x.letter(text.charAt(i));
-        }
-    }
-
-    private static LedWitness opened(String text, int... kinds) {
-        LedWitness x = new LedWitness();
-        type(x, text);
-        due("open() of " + text, x.open(), text.charAt(7) - '0');
-        for (int i = 0; i < kinds.length; i++) {
-            due("witness(" + kinds[i] + ")", x.witness(kinds[i]), i);
-        }
-        return x;
-    }
-
-    /** What one has of a feature, as held, sure, from. */
-    private static void has(String when, LedWitness x, int witness, int feature, int... want) {
-        String who = when + ": witness " + witness + ", feature " + feature;
-        due(who + ", held", x.about(witness, 10 + feature), want[0]);
-        due(who + ", sure", x.about(witness, 20 + feature), want[1]);
-        due(who + ", from", x.about(witness, 30 + feature), want[2]);
-    }
-
+public final class PromiseTest extends Checks {
     private static void promise1NewObject() {
         LedWitness x = new LedWitness();
         for (int what = 0; what <= 8; what++) {
@@ -654,13 +617,6 @@ public final class PromiseTest {
         due("count(-1)", x.count(-1), OUTSIDE);
     }
 
-    private static long fold(long h, long... numbers) {
-        for (long number : numbers) {
-            h = 31 * h + number;
-        }
-        return h;
-    }
-
     private static void promise24Digest() {
         LedWitness x = new LedWitness();
         long h = fold(887, 0, 0, 0, 0, 0, 0, 0, 0, 0);
@@ -705,9 +661,6 @@ public final class PromiseTest {
         promise22Restore();
         promise23Count();
         promise24Digest();
-        System.out.println(wrong == 0 ? "all answers are as due" : wrong + " answers are not as due");
-        if (wrong != 0) {
-            System.exit(1);
-        }
+        finish("");
     }
 }
