@@ -119,6 +119,31 @@ public final class AllEdgesTest extends Checks {
         due("led(0, 0)", x.led(0, 0), 120);
     }
 
+    /** Of each of four, of each feature. */
+    static void p22KeepsAllOfAll() {
+        LedWitness x = opened("abcdab;0", WITNESS, CHILD, OLD, PARROT);
+        for (int w = 0; w < 4; w++) {
+            for (int f = 0; f < 6; f++) {
+                x.lead(w, f, (w + f) % 4, 1 + (w + f) % 5);
+            }
+        }
+        for (int f = 0; f < 6; f++) {
+            x.say(f % 4, f, (f + 1) % 5);
+        }
+        long before = x.digest();
+        x.image();
+        x.forget();
+        for (int w = 0; w < 4; w++) {
+            for (int f = 0; f < 6; f++) {
+                x.saw(w, f, (w + f + 1) % 4, 9);
+            }
+            x.say(w, 0, 0);
+            x.say(w, 0, 1);
+        }
+        x.restore();
+        due("digest()", x.digest(), before);
+    }
+
     /** What the document does not list goes on: the page, cases read, corridor(). */
     static void p22WhatItDoesNotKeep() {
         LedWitness x = opened("abcdab;0", OLD, CHILD);

@@ -369,6 +369,21 @@ public final class CaseEdgesTest extends Checks {
         due("ahead by 1", x.feature(0, 2), 1);
     }
 
+    /** "of those of 0 to 3": each of them can be it, alone and ahead of each other one. */
+    static void p6EachThingCanBeMost() {
+        for (int thing = 0; thing < 4; thing++) {
+            LedWitness x = opened(GOOD, WITNESS, WITNESS);
+            x.saw(0, 4, thing, 2);
+            due("alone", x.feature(4, 1), thing);
+            due("alone: ahead", x.feature(4, 2), 2);
+            for (int other = 0; other < 4; other++) {
+                x.saw(1, 4, other, 1);
+                due("most", x.feature(4, 1), thing);
+                due("ahead", x.feature(4, 2), other == thing ? 3 : 1);
+            }
+        }
+    }
+
     /** "all who HOLD it are SURE by most together" */
     static void p6Together() {
         LedWitness x = opened(GOOD, WITNESS, WITNESS, WITNESS, WITNESS);

@@ -167,6 +167,20 @@ public final class SaidEdgesTest extends Checks {
         ledIs("no question takes it away", x, 0, 0, NONE);
     }
 
+    /** All that is SAID is so now, but each question puts something in. */
+    static void p19SixTimesNothing() {
+        for (int kind = 0; kind < 5; kind++) {
+            for (int w = 0; w < 4; w++) {
+                LedWitness x = opened("abcdab;4", kind, kind, kind, kind);
+                for (int f = 0; f < 6; f++) {
+                    x.say(w, f, 4);
+                }
+                boolean stays = kind == STUBBORN;
+                ledIs("kind " + kind, x, w, stays ? 24 : 0, stays ? 0 : NONE);
+            }
+        }
+    }
+
     /** "would be so": also if he does not yield, or holds it already. */
     static void p19SoAnyway() {
         LedWitness x = opened("abcdab;0", WITNESS, STUBBORN);
@@ -318,6 +332,16 @@ public final class SaidEdgesTest extends Checks {
         }
         due("yielded before", x.count(3), 50);
         due("one week", x.weeks(1, 0, 0) <= 1 ? 1 : 0, 1);
+    }
+
+    /** The same WEEKS are the same again, whatever was tried in between. */
+    static void p20Again() {
+        LedWitness x = past(0, CHILD, OLD);
+        int[] first = {x.weeks(60, 5, 0), x.weeks(60, 5, 1), x.weeks(60, 5, 2)};
+        for (int what = 0; what <= 2; what++) {
+            x.weeks(17, 3, what);
+            due("weeks(60, 5, " + what + ")", x.weeks(60, 5, what), first[what]);
+        }
     }
 
     static void p20AsTheyWouldBe() {
