@@ -34,6 +34,17 @@ public final class SaidEdgesTest extends Checks {
         }
     }
 
+    /** "It is SAID: how much is": the same thing again is one more, and fills it up as well. */
+    static void p17TheSameAgain() {
+        LedWitness x = opened("abcdab;2", CHILD, OLD);
+        for (int n = 1; n <= 6; n++) {
+            due("say " + n, x.say(1, 2, 3), n);
+        }
+        refused("say 7", x, FULL, o -> o.say(1, 2, 3));
+        due("led(1, 0)", x.led(1, 0), 5);
+        due("forget()", x.forget(), 6);
+    }
+
     private static LedWitness allSaid() {
         LedWitness x = opened("abcdab;2", CHILD, OLD);
         for (int n = 0; n < 6; n++) {
